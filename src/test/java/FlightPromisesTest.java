@@ -236,6 +236,7 @@ public final class FlightPromisesTest {
         climbs("both", flown("aoa", "tb11", "90;90", 1), 3, 6, 1, 9);
         climbs("the last mile", flown("oooooooooooooooooooooooa", "ta11", "90;90", 1), 24, 1, 18, 8);
         climbs("speaks whatever he does", flown("aaaaaao", "pa11", "90;90", 1), 1, 8, 1, 1);
+        climbs("the highest alone", flown("aa", "ta11", "90;90", 1), 2, 9, 1, 9);
         BittenStick x = flown("oa", "tb11", "90;90", 1);
         x.learn(1);
         climbs("learned", x, 2, 1, 1, 1);

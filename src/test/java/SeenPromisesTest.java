@@ -164,6 +164,10 @@ public final class SeenPromisesTest {
         chance("not carried", flown("b", "ta19", "90;10", 5), 8, 0, 1);
         chance("nowhere", flown("o", "ta11", "90", 5), 8, 0, 1);
         chance("frozen", flown("bboooo", "ta11", "90;90", 9), 0, 0, 1);
+        chance("just not frozen", flown("bbooo", "ta11", "90;90", 9), 16, 1, 1);
+        chance("just not frozen, rested", flown("ooooibbooo", "ta11", "90;90", 9), 16, 1, 1);
+        chance("two of four", flown("bbobb", "tb11", "90;90", 9), 8, 11, 16);
+        chance("by 1 and by 2", flown("abbba", "ta11", "90;90", 9), 8, 7, 8);
         chance("no miles", flown("", "ta11", "90;90", 5), 8, 1, 1);
         BittenStick ten = flown("aiaiaiaiaiaiaiaiaia", "ta11", "90;90", 5);
         chance("ten towns", ten, 1, 576650390625L, 1099511627776L);
@@ -185,6 +189,11 @@ public final class SeenPromisesTest {
             check.due("25 heights 1 to 8 arrive", x.lakes(seed * 12345678, 99, 0), 99 - drawn(seed * 12345678, 9));
             check.due("25 none speaks", x.lakes(seed * 12345678, 99, 1), 0);
         }
+        check.due("25 once", x.lakes(1, 1, 0), 1);
+        BittenStick three = Check.stick("o", "ta19", "50;40;30");
+        check.due("25 goose 0 on the left, 1 on the right", three.lakes(9, 99, 0), drawnPairs(9, 3, 0, 1));
+        BittenStick last = Check.stick("o", "ta19", "30;40;50");
+        check.due("25 goose 2 on the left, 1 on the right", last.lakes(9, 99, 0), drawnPairs(9, 3, 2, 1));
         BittenStick town = Check.stick("b", "ta11", "90;90");
         int low = drawn(7, 1) + drawn(7, 2) + drawn(7, 3) + drawn(7, 4);
         check.due("25 heights 1 to 4 speak", town.lakes(7, 99, 1), low);
@@ -196,6 +205,24 @@ public final class SeenPromisesTest {
         check.due("25 no two geese", Check.stick("o", "ta11", "90").lakes(1, 99, 1), 0);
         check.due("25 no miles", Check.stick("", "ta11", "90;90").lakes(1, 99, 0), 99);
         check.due("25 bad, though there are none", Check.stick("", "", "").lakes(1, 100, 0), BAD);
+    }
+
+    /** How often two geese are drawn in 99 lakes with one passenger. */
+    private static int drawnPairs(int seed, int geese, int left, int right) {
+        int number = 0;
+        int s = seed;
+        for (int lake = 0; lake < 99; lake++) {
+            s = 1103515245 * s + 12345;
+            s = 1103515245 * s + 12345;
+            int first = (s >>> 16) % geese;
+            s = 1103515245 * s + 12345;
+            int second = (s >>> 16) % (geese - 1);
+            s = 1103515245 * s + 12345;
+            if (first == left && second + (second >= first ? 1 : 0) == right) {
+                number++;
+            }
+        }
+        return number;
     }
 
     /** How often a height is drawn in 99 lakes with one passenger and two geese. */

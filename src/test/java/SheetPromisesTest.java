@@ -41,7 +41,9 @@ public final class SheetPromisesTest {
             for (int form = 0; form < 3; form++) {
                 check.due("26 sheet", x.sheet(s, form, 60), 60);
                 check.due("26 form", x.get(s, form, 59), 0);
+                check.due("26 item 0", x.get(s, form, 0), 0);
                 check.due("28 lay", x.lay(s, form, 59, 7), 1);
+                check.due("28 lay", x.lay(s, form, 0, 7), 1);
             }
             check.due("26 anew", x.sheet(s, 2, 60), 60);
             check.due("26 items are 0", x.get(s, 2, 59), 0);
