@@ -129,6 +129,11 @@ public final class SeenPromisesTest {
         y.back();
         y.back();
         check.due("23 the only flight", y.ask(0), 0);
+        // Two passengers over all the miles: the deaf one's flight tells nothing, the other tells a from the rest.
+        BittenStick far = Check.stick("aooooooooooooooooooooooo", "tb11;da11", "90;90");
+        far.flight(1, 0, 1, 5);
+        far.flight(0, 0, 1, 5);
+        check.due("23 groups that arrive", far.ask(0), 1);
     }
 
     private static void chance(String what, BittenStick x, int c, long above, long below) {
