@@ -1040,11 +1040,8 @@ public final class BittenStick {
             return sum;
         }
 
-        /** What stands below is a power of two, so only twos can be shared. */
+        /** What stands below is a power of two, so only twos can be shared; 0 shares them all. */
         private void reduce() {
-            if (above == 0) {
-                below = 1;
-            }
             for (int twos = 0; twos < 63 && below > 1 && above % 2 == 0; twos++) {
                 above /= 2;
                 below /= 2;

@@ -166,6 +166,8 @@ public final class SeenPromisesTest {
         chance("an island between", flown("bbibb", "ta11", "90;90", 5), 4, 225, 256);
         chance("deaf", flown("bb", "da11", "90;90", 5), 16, 1, 1);
         chance("the sore alone", flown("aibib", "ta11", "90;90", 5), 3, 13, 16);
+        chance("the sore, nearly always", flown("a", "ta11", "90;90", 5), 15, 1, 16);
+        chance("the sore, always", flown("a", "ta11", "90;90", 5), 16, 0, 1);
         chance("not carried", flown("b", "ta19", "90;10", 5), 8, 0, 1);
         chance("nowhere", flown("o", "ta11", "90", 5), 8, 0, 1);
         chance("frozen", flown("bboooo", "ta11", "90;90", 9), 0, 0, 1);
