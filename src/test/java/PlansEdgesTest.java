@@ -367,9 +367,9 @@ public final class PlansEdgesTest {
             check.due("25 the passenger by " + seed, light.lakes(seed, 99, 0), lakesWith(seed, 3, 1, 2, 0, -1));
             // Goose 0 on the left and goose 2 on the right alone carry.
             BittenStick second = Check.stick("o", "ta19", "50;30;40");
-            check.due("25 of those that are left, the second", second.lakes(seed, 99, 0), lakesWith(seed, 1, 0, 3, 0, 2));
+            check.due("25 the second of those left", second.lakes(seed, 99, 0), lakesWith(seed, 1, 0, 3, 0, 2));
             BittenStick middle = Check.stick("o", "ta19", "40;50;30");
-            check.due("25 of those that are left, the first", middle.lakes(seed, 99, 0), lakesWith(seed, 1, 0, 3, 1, 0));
+            check.due("25 the first of those left", middle.lakes(seed, 99, 0), lakesWith(seed, 1, 0, 3, 1, 0));
             BittenStick behind = Check.stick("o", "ta19", "30;50;40");
             check.due("25 behind the left one", behind.lakes(seed, 99, 0), lakesWith(seed, 1, 0, 3, 1, 2));
             BittenStick eight = Check.stick("o", "ta19", "30;30;30;30;30;30;40;50");

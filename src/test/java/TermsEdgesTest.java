@@ -1,6 +1,6 @@
 import java.util.Arrays;
 
-/** The edges that 'What it is' and 'Terms' name up to how a flight falls: texts, faults, and each mile's steps in turn. */
+/** The edges that 'What it is' and 'Terms' name: texts, faults, and the steps of each mile up to how he falls. */
 public final class TermsEdgesTest {
     private static final int NONE = -1, BAD = -2, NOT = -3, FULL = -4;
     private static final int[] LIMITS = {24, 39, 23};
