@@ -9,6 +9,8 @@ public final class BittenStick {
     private static final int MOST_MILES = 24, MOST_TOWNS_BY_CHANCE = 10;
     private static final int HIGHEST = 9, MOST_FLIGHTS = 8, MOST_SEEN = 8, SHEETS = 4, MOST_ITEMS = 60;
     private static final int MOST_BORNE = 45;
+    private static final int LEAST_INT = 1 << 31;
+    private static final long LEAST_LONG = 1L << 63;
 
     private final Land land = new Land();
     private final Passengers passengers = new Passengers();
@@ -300,7 +302,7 @@ public final class BittenStick {
     public long laugh(int c, int flight, int what) {
         if (c < 0 || c > 16 || !flights.has(flight) || what < 0 || what > 1
                 || land.towns() > MOST_TOWNS_BY_CHANCE) {
-            return Long.MIN_VALUE - BAD;
+            return LEAST_LONG - BAD;
         }
         prepare(flight);
         laughter.weigh(c, trip, flights.heightOf(flight));
@@ -373,7 +375,7 @@ public final class BittenStick {
     public int get(int s, int form, int i) {
         Sheet sheet = sheetOf(s);
         if (sheet == null || !isForm(form) || itemRefusal(sheet, form, i) != 0) {
-            return Integer.MIN_VALUE;
+            return LEAST_INT;
         }
         return sheet.item(i);
     }
@@ -545,13 +547,16 @@ public final class BittenStick {
 
     /** Whether all that was seen comes out so with that sore of a passenger, or that height of a flight. */
     private boolean agreesWithSeen(int passenger, int sore, int flight, int height) {
+        trip.learned = learned;
         for (int i = 0; i < seenNumber && i < MOST_SEEN; i++) {
             int flown = seenFlights[i];
             if (!flights.has(flown)) {
                 return false;
             }
-            prepare(flown);
-            if (flights.passengerOf(flown) == passenger) {
+            int flier = flights.passengerOf(flown);
+            // Not by prepare(): digest() comes here through ask() and sores(), and calls may not go deeper than eight.
+            trip.board(flier, flights.leftOf(flown), flights.rightOf(flown));
+            if (flier == passenger) {
                 trip.sore = sore;
             }
             int to = trip.comesTo(flown == flight ? height : flights.heightOf(flown));

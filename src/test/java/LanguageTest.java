@@ -16,6 +16,7 @@ import java.util.regex.Pattern;
 /** The rules of LANGUAGE.md that can be seen in the source, in the class, or in what calls make. */
 public final class LanguageTest {
     private static final Path SOURCE = Path.of("src/main/java/BittenStick.java");
+    private static final Path DOCUMENT = Path.of("../shared/DOC.md");
     private static final String FACE = "ask back behind climb comes copy count digest farthest fault flight forget get"
             + " goose high lakes laugh lay learn lose mile pair passenger practice read seen sheet sores type undo"
             + " wipe write";
@@ -25,7 +26,9 @@ public final class LanguageTest {
         String source = Files.readString(SOURCE);
         words(source);
         methodLengths(source);
+        library(source);
         face();
+        faceOfTheDocument();
         classesInside();
         objectsMade();
         check.end();
@@ -49,6 +52,16 @@ public final class LanguageTest {
         check.holds("signs 1 to 127", source.chars().allMatch(c -> c >= 1 && c <= 127));
         Matcher statics = Pattern.compile("\\bstatic\\s+(?!final|class|int \\w+\\(|boolean \\w+\\()").matcher(code);
         check.holds("static fields are final", !statics.find());
+    }
+
+    /** Rule 4 lists functions of Integer, Long and Math, and none of their constants. */
+    private static void library(String source) {
+        Matcher used = Pattern.compile("\\b([A-Z][a-z]\\w*)\\.(\\w+)\\b(\\(?)").matcher(withoutComments(source));
+        while (used.find()) {
+            String name = used.group(1) + "." + used.group(2);
+            boolean listed = name.equals("System.arraycopy") || name.matches("(Integer|Long|Math)\\.[a-z]\\w*");
+            check.holds("in the library: " + used.group(), listed && used.group(3).equals("("));
+        }
     }
 
     private static void methodLengths(String source) {
@@ -96,6 +109,25 @@ public final class LanguageTest {
         Constructor<?>[] constructors = type.getDeclaredConstructors();
         check.holds("one constructor", constructors.length == 1 && constructors[0].getParameterCount() == 0
                 && Modifier.isPublic(constructors[0].getModifiers()));
+    }
+
+    private static void faceOfTheDocument() throws Exception {
+        String document = Files.readString(DOCUMENT);
+        int from = document.indexOf("public final class BittenStick {");
+        String told = document.substring(from, document.indexOf("}", from));
+        Matcher m = Pattern.compile("public (int|long) (\\w+)\\(([^)]*)\\);").matcher(told);
+        int number = 0;
+        while (m.find()) {
+            number++;
+            String[] parameters = m.group(3).isEmpty() ? new String[0] : m.group(3).split(", ");
+            Class<?>[] types = new Class<?>[parameters.length];
+            for (int i = 0; i < types.length; i++) {
+                types[i] = parameters[i].startsWith("int ") ? int.class : null;
+            }
+            Method has = BittenStick.class.getMethod(m.group(2), types);
+            check.holds("as the document tells: " + m.group(), has.getReturnType().getName().equals(m.group(1)));
+        }
+        check.due("methods that the document tells", number, FACE.split(" ").length);
     }
 
     private static void classesInside() {
