@@ -8,6 +8,7 @@ public final class SeenPromisesTest {
         seenAndForget();
         sores();
         high();
+        sidesOfWhatWasSeen();
         ask();
         laugh();
         lakes();
@@ -103,6 +104,25 @@ public final class SeenPromisesTest {
         x.forget();
         x.seen(3, 0);
         check.due("22 a flight that is not there", x.high(0), 0);
+    }
+
+    /** Of a weight of 9 the left one bears 5 and the right one 4, so the same geese carry by one order alone. */
+    private static void sidesOfWhatWasSeen() {
+        BittenStick x = Check.stick("oo", "ta99", "50;40");
+        x.flight(0, 0, 1, 5);
+        x.flight(0, 1, 0, 5);
+        x.seen(0, 2);
+        x.seen(1, 0);
+        check.due("21 each by its own sides", x.sores(0), 63);
+        check.due("22 each by its own sides", x.high(0), 1022);
+        x.forget();
+        x.seen(0, 0);
+        check.due("21 the strong one was on the left", x.sores(0), 0);
+        check.due("22 the strong one was on the left", x.high(0), 0);
+        x.forget();
+        x.seen(1, 2);
+        check.due("21 the strong one was on the right", x.sores(0), 0);
+        check.due("22 the strong one was on the right", x.high(1), 0);
     }
 
     private static void ask() {
